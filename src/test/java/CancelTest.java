@@ -55,10 +55,7 @@ public final class CancelTest {
         house.stream();
         house.writer(1, 0, 0, 1);
         house.writer(1, 0, 0, 1);
-        house.turn(2);
-        house.turn(2);
-        house.turn(3);
-        house.turn(3);
+        Check.commitTwoAndThree(house);
         house.cancel(0);
         house.cancel(1);
         check.due("count(1)", house.count(1), 3);

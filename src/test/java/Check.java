@@ -36,6 +36,14 @@ final class Check {
         }
     }
 
+    /** Writers 2 and 3 of one step each do it and commit, in this order. */
+    static void commitTwoAndThree(HouseWorkers house) {
+        for (int work = 2; work <= 3; work++) {
+            house.turn(work);
+            house.turn(work);
+        }
+    }
+
     /** Fills a house with questions until no more worker can begin. */
     static void fill(HouseWorkers house) {
         for (int i = 0; i < 30; i++) {

@@ -52,10 +52,7 @@ public final class CloseTest {
         house.stream();
         house.writer(1, 0, 0, 1);
         house.writer(1, 0, 0, 1);
-        house.turn(2);
-        house.turn(2);
-        house.turn(3);
-        house.turn(3);
+        Check.commitTwoAndThree(house);
         check.due("count(1)", house.count(1), 3);
         check.due("close()", house.close(), 2);
         check.due("count(1)", house.count(1), 1);

@@ -58,5 +58,11 @@ public final class TurnTest {
             check.due("turn(" + work + ")", house.turn(work), -1);
         }
         check.due("count(4)", house.count(4), 0);
+        HouseWorkers full = new HouseWorkers();
+        Check.fill(full);
+        check.due("turn(29) of a full house", full.turn(29), 2);
+        check.due("turn(30) of a full house", full.turn(30), -1);
+        check.due("told(30, 0) of a full house", full.told(30, 0), -1);
+        check.due("cancel(30) of a full house", full.cancel(30), -1);
     }
 }
