@@ -1,13 +1,29 @@
-/** Counts and prints the answers that are not the ones that are due. */
+import java.util.Arrays;
+
+/**
+ * Counts and prints the answers that are not the ones that are due, each with the document's words
+ * that ask for it. SentencesTest holds these words against the document.
+ */
 final class Check {
     private static final int CELLS = 16;
 
+    private final String part;
+    private String sentence = "";
     private int wrong = 0;
+
+    /** The part of the document that the test is about, by its heading. */
+    Check(String part) {
+        this.part = part;
+    }
+
+    /** The answers from here on are what these words of the document ask for. */
+    void says(String words) {
+        sentence = words;
+    }
 
     void due(String call, int got, int want) {
         if (got != want) {
-            wrong++;
-            System.out.println(call + " answered " + got + ", due is " + want);
+            fail(call + " answered " + got + ", due is " + want);
         }
     }
 
@@ -36,18 +52,14 @@ final class Check {
         }
     }
 
-    /** Writers 2 and 3 of one step each do it and commit, in this order. */
-    static void commitTwoAndThree(HouseWorkers house) {
-        for (int work = 2; work <= 3; work++) {
-            house.turn(work);
-            house.turn(work);
-        }
+    void dueCount(HouseWorkers house, int what, int want) {
+        due("count(" + what + ")", house.count(what), want);
     }
 
-    /** Fills a house with questions until no more worker can begin. */
-    static void fill(HouseWorkers house) {
-        for (int i = 0; i < 30; i++) {
-            house.question(1, 0, 0);
+    /** All that can be asked of the house is still as it was when Houses.seen() was taken. */
+    void dueSame(String call, HouseWorkers house, int[] seen) {
+        if (!Arrays.equals(Houses.seen(house), seen)) {
+            fail(call + " changed the house");
         }
     }
 
@@ -56,5 +68,10 @@ final class Check {
         if (wrong != 0) {
             System.exit(1);
         }
+    }
+
+    private void fail(String what) {
+        wrong++;
+        System.out.println(part + ", \"" + sentence + "\": " + what);
     }
 }

@@ -1,72 +1,110 @@
 /** Promise 2: put. */
 public final class PutTest {
     public static void main(String[] args) {
-        Check check = new Check();
-        cellsBecomeWhatIsPut(check);
-        wrongCells(check);
-        notOnceAWorkerBegan(check);
-        closingAloneDoesNotForbidIt(check);
+        Check check = new Check("Promise 2: put");
+        theFirstAndTheLastCell(check);
+        theLeastAndTheGreatestNumber(check);
+        theLastPutStays(check);
+        noSuchCell(check);
+        noSuchCellWithAWorker(check);
+        aWorkerBegan(check);
+        aWorkerThatEndedBeganToo(check);
+        aRefusedWorkerDidNotBegin(check);
+        closingIsNoWorker(check);
         check.finish();
     }
 
-    private static void cellsBecomeWhatIsPut(Check check) {
+    private static void theFirstAndTheLastCell(Check check) {
+        check.says("A cell of version 0 becomes v: 1.");
+        HouseWorkers house = new HouseWorkers();
+        check.due("put(0, 4)", house.put(0, 4), 1);
+        check.due("put(15, 6)", house.put(15, 6), 1);
+        check.dueCells(house, 0, 4, 0, 0, 0, 0, 0, 0, 0, 0, 0, 0, 0, 0, 0, 0, 6);
+        check.dueCount(house, 0, 1);
+    }
+
+    private static void theLeastAndTheGreatestNumber(Check check) {
+        check.says("A cell of version 0 becomes v: 1.");
+        HouseWorkers house = new HouseWorkers();
+        int[] numbers = {Houses.LEAST, Houses.GREATEST, 0, -1, -2, -3};
+        for (int v : numbers) {
+            check.due("put(7, " + v + ")", house.put(7, v), 1);
+            check.due("cell(0, 7)", house.cell(0, 7), v);
+        }
+    }
+
+    private static void theLastPutStays(Check check) {
+        check.says("A cell of version 0 becomes v: 1.");
         HouseWorkers house = new HouseWorkers();
         int[] want = new int[16];
         for (int cell = 0; cell < 16; cell++) {
-            check.due("put", house.put(cell, -1), 1);
             want[cell] = cell * cell - 50;
+            check.due("put", house.put(cell, 99), 1);
             check.due("put again", house.put(cell, want[cell]), 1);
         }
         check.dueCells(house, 0, want);
-        check.due("put the least", house.put(0, Integer.MIN_VALUE), 1);
-        check.due("put the greatest", house.put(15, Integer.MAX_VALUE), 1);
-        check.due("the least", house.cell(0, 0), Integer.MIN_VALUE);
-        check.due("the greatest", house.cell(0, 15), Integer.MAX_VALUE);
-        check.due("count(0)", house.count(0), 1);
     }
 
-    private static void wrongCells(Check check) {
+    private static void noSuchCell(Check check) {
+        check.says("BAD: no such cell");
+        HouseWorkers house = Houses.counted();
+        int[] seen = Houses.seen(house);
+        int[] wrong = {-1, 16, 17, Houses.LEAST, Houses.GREATEST};
+        for (int cell : wrong) {
+            check.due("put(" + cell + ", 9)", house.put(cell, 9), -1);
+        }
+        check.dueSame("put of no such cell", house, seen);
+    }
+
+    private static void noSuchCellWithAWorker(Check check) {
+        check.says("BAD: no such cell; NO: a worker began already.");
         HouseWorkers house = new HouseWorkers();
-        int[] wrong = {-1, 16, Integer.MIN_VALUE, Integer.MAX_VALUE};
-        for (int cell : wrong) {
-            check.due("put(" + cell + ", 1)", house.put(cell, 1), -1);
-        }
         house.stream();
-        for (int cell : wrong) {
-            check.due("put(" + cell + ", 1) with a worker", house.put(cell, 1), -1);
-        }
+        check.due("put(-1, 9)", house.put(-1, 9), -1);
+        check.due("put(0, 9)", house.put(0, 9), -2);
+        check.due("put(15, 9)", house.put(15, 9), -2);
+        check.due("put(16, 9)", house.put(16, 9), -1);
     }
 
-    private static void notOnceAWorkerBegan(Check check) {
-        for (int kind = 0; kind < 4; kind++) {
+    private static void aWorkerBegan(Check check) {
+        check.says("NO: a worker began already.");
+        for (int kind = 0; kind < Houses.KINDS; kind++) {
             HouseWorkers house = new HouseWorkers();
             house.put(3, 4);
-            check.due("begin", begin(house, kind), 0);
-            check.due("put with kind " + kind, house.put(3, 9), -2);
-            check.due("cell(0, 3)", house.cell(0, 3), 4);
-            house.cancel(0);
-            house.turn(0);
-            check.due("put when it has ended", house.put(3, 9), -2);
+            Houses.begin(house, kind);
+            int[] seen = Houses.seen(house);
+            check.due("put(3, 9) with kind " + kind, house.put(3, 9), -2);
+            check.dueSame("put(3, 9) with kind " + kind, house, seen);
         }
-        HouseWorkers refused = new HouseWorkers();
-        refused.question(0, 0, 0);
-        check.due("put behind a refused worker", refused.put(3, 9), 1);
     }
 
-    private static int begin(HouseWorkers house, int kind) {
-        if (kind == 0) {
-            return house.question(1, 0, 0);
-        }
-        if (kind == 1) {
-            return house.writer(1, 0, 0, 1);
-        }
-        return kind == 2 ? house.reason(1, 0) : house.stream();
-    }
-
-    private static void closingAloneDoesNotForbidIt(Check check) {
+    private static void aWorkerThatEndedBeganToo(Check check) {
+        check.says("NO: a worker began already.");
         HouseWorkers house = new HouseWorkers();
-        check.due("close()", house.close(), 0);
+        house.question(1, 1, 0);
+        house.turn(0);
+        check.due("put(3, 9) when it failed", house.put(3, 9), -2);
+        house.close();
+        check.due("put(3, 9) when closed", house.put(3, 9), -2);
+        check.due("cell(0, 3)", house.cell(0, 3), 0);
+    }
+
+    private static void aRefusedWorkerDidNotBegin(Check check) {
+        check.says("NO: a worker began already.");
+        HouseWorkers house = new HouseWorkers();
+        house.question(0, 0, 0);
+        house.writer(1, 31, 0, 1);
+        house.reason(21, 0);
+        check.due("put(3, 9)", house.put(3, 9), 1);
+        check.due("cell(0, 3)", house.cell(0, 3), 9);
+    }
+
+    private static void closingIsNoWorker(Check check) {
+        check.says("NO: a worker began already.");
+        HouseWorkers house = Houses.closed();
         check.due("put(2, 5) in a closed house", house.put(2, 5), 1);
         check.due("cell(0, 2)", house.cell(0, 2), 5);
+        house.stream();
+        check.due("put(2, 6) behind a refused stream", house.put(2, 6), 1);
     }
 }

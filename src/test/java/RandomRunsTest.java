@@ -68,8 +68,8 @@ public final class RandomRunsTest {
     }
 
     private void begin() {
-        int steps = oneOf(6);
-        int failsAt = random.nextInt(3) == 0 ? oneOf(8) : 0;
+        int steps = random.nextInt(4) == 0 ? oneOf(22) : oneOf(6);
+        int failsAt = random.nextInt(3) == 0 ? oneOf(random.nextBoolean() ? 8 : 32) : 0;
         int first = oneOf(16);
         int by = random.nextInt();
         switch (random.nextInt(4)) {
